@@ -290,7 +290,7 @@ public final class PictureBlock {
         int best = 0;
         int most = 0;
         for (int set = 1; set < 1 << MOST_MARKS; set++) {
-            // Without a mark too many the ways part nowhere: one mark for each PICTURE.
+            // Each mark of the fewest ties one PICTURE more: so there are as many as PICTURES.
             boolean fewest = Integer.bitCount(set) == now.pictures && (set & ~now.on) == 0;
             if (fewest && now.holds(set)) {
                 int weight = now.weightOfAll(set);
@@ -330,7 +330,7 @@ public final class PictureBlock {
         if (!isWithin(n, 0, MOST_THOUGHT_ROUNDS)) {
             return error(BEYOND);
         }
-        // While none is dropped the ROUNDS go on alike by each LIMIT: so the largest DOUBT is it.
+        // While none is dropped, all goes on alike by each LIMIT: so the largest DOUBT ahead is it.
         thought.copy(now);
         long least = 0;
         for (int i = 0; i < n; i++) {
@@ -716,7 +716,6 @@ public final class PictureBlock {
             return last;
         }
 
-        /** PICTURES TIED by a set of MARKS, as a set. */
         private int tiedBy(int set) {
             // THE GROUND is -1: so with it as bit 0 each PICTURE's bit is one higher.
             int tied = 1;
@@ -736,7 +735,6 @@ public final class PictureBlock {
             return tiedBy(set) == (1 << pictures) - 1;
         }
 
-        /** How many MARKS that are ON are FROM or TO a PICTURE. */
         private int touching(int picture) {
             int touching = 0;
             for (int mark = 0; mark < marks; mark++) {
@@ -766,7 +764,6 @@ public final class PictureBlock {
             return texts[SAYS].given(read(mark), told[mark], round % 8);
         }
 
-        /** What the KIND of a mark WEIGHS, with k MARKS that are ON at the PICTURE TO which it is. */
         private int weighed(int mark, int k) {
             switch (kind[mark]) {
                 case FLAT: return PLAIN_WEIGHT + 1;
@@ -783,7 +780,6 @@ public final class PictureBlock {
             return k > 3 ? 1 : PLAIN_WEIGHT + 1;
         }
 
-        /** What the KIND of a mark READS. */
         private int read(int mark) {
             int v = told[mark];
             switch (kind[mark]) {
@@ -795,7 +791,6 @@ public final class PictureBlock {
             }
         }
 
-        /** The two draws ahead of a ROUND BY DRAWS. */
         private void drawMark() {
             if (marks > 0) {
                 int mark = draw() % marks;
@@ -839,7 +834,6 @@ public final class PictureBlock {
             return count > 0;
         }
 
-        /** What the USE gives with its NAMES in order as a, b, c. */
         private int given(int a, int b, int c) {
             // Without a TEXT it is the first NAME that is given.
             open[0] = a;
@@ -1081,13 +1075,12 @@ public final class PictureBlock {
             }
         }
 
-        /** MISS of a mark that SAYS so much, above the line. */
         private long missAbove(Block block, int mark, int says) {
             int from = block.from[mark];
             return says * line - above[block.to[mark]] + (from < 0 ? 0 : above[from]);
         }
 
-        /** SUM, above the square of the line. */
+        /** Above the square of the line. */
         private long sumAbove(Block block) {
             long sum = 0;
             for (int mark = 0; mark < block.marks; mark++) {
@@ -1099,7 +1092,6 @@ public final class PictureBlock {
             return sum;
         }
 
-        /** DOUBT of a mark that is ON, above the line. */
         private long doubtAbove(Block block, int mark) {
             return weights[mark] * Math.abs(missAbove(block, mark, said[mark]));
         }
@@ -1128,7 +1120,6 @@ public final class PictureBlock {
             block.round++;
         }
 
-        /** The least LIMIT by which the next ROUND drops none. */
         private long leastLimit(Block block) {
             if (!find(block)) {
                 return 0;
@@ -1138,7 +1129,7 @@ public final class PictureBlock {
         }
     }
 
-    /** VOICES of MARKS: which BODY a KIND has for each, and what it works out. */
+    /** VOICES: bodies by their numbers, so that THE TRACE and what is worked out can never part. */
     private static final class Voices {
         private static final int WEIGHS = 0;
         private static final int SAYING = 1;
@@ -1222,7 +1213,7 @@ public final class PictureBlock {
         }
     }
 
-    /** SHEETS: rows of numbers held as their lowest bits, with their sign. */
+    /** SHEETS: their rows are as long as can be from the first on, so that no call makes one. */
     private static final class Sheets {
         private final int[][] numbers = new int[SHEETS][SHEET_NUMBERS];
         private final int[] bits = new int[SHEETS];
@@ -1244,7 +1235,6 @@ public final class PictureBlock {
             numbers[sheet][i] = bits[sheet] == 8 ? (byte) v : bits[sheet] == 16 ? (short) v : v;
         }
 
-        /** Whether n numbers stand on a SHEET from number i on. */
         private boolean stand(int sheet, int i, int n) {
             return i >= 0 && i <= length[sheet] && n >= 0 && n <= length[sheet] - i;
         }

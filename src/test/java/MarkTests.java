@@ -111,6 +111,8 @@ public final class MarkTests {
         c.due("a crowded faint one by w+1", x.markIs(0, 6), 1);
         x.become(0, 20);
         c.due("a crowded star by w+1", x.markIs(0, 6), 2);
+        Checks.readText(x, 0, "w-1");
+        weighs(x, new int[] {0, 10, 35, 60}, new int[] {1, 2, 3, 3}, "by w-1");
         Checks.readText(x, 0, "k+n*5");
         c.due("k and n", x.markIs(0, 6), 4);
         x.round(8);

@@ -182,6 +182,20 @@ public final class ThoughtTests {
         c.due("beyond 9999", x.limitFor(2), Checks.NONE);
         x.on(2, 0);
         c.due("-30, -30", x.limitFor(2), 0);
+        largestLimit();
+    }
+
+    /** Three say -30 and one v, of weight 3 each: it misses three quarters of 30 + v. */
+    private static void largestLimit() {
+        PictureBlock x = new PictureBlock();
+        x.pictures(1);
+        for (int i = 0; i < 4; i++) {
+            x.mark(10, -1, 0, i < 3 ? -20 : 14);
+        }
+        Checks.readText(x, 1, "t-(t<0)*10");
+        c.due("99", x.limitFor(1), 99);
+        x.measure(3, 15);
+        c.due("more than 101", x.limitFor(1), Checks.NONE);
     }
 
     private static void toldFor() {
