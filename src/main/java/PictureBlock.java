@@ -403,11 +403,7 @@ public final class PictureBlock {
             return error(BEYOND);
         }
         int answer = voices.answerOf(mark, now.m[mark], now.kind[mark], voice, x);
-        if (voices.parted) {
-            return error(PARTED);
-        }
-        voices.keepTrace();
-        return answer;
+        return voices.parted ? error(PARTED) : answer;
     }
 
     public int body(int i) {
@@ -1149,9 +1145,7 @@ public final class PictureBlock {
         };
 
         private final int[] trace = new int[TRACE_BODIES];
-        private final int[] begun = new int[TRACE_BODIES];
         private int traced;
-        private int beginnings;
         private int kind;
         private int k;
         private int m;
@@ -1162,28 +1156,23 @@ public final class PictureBlock {
             m = number;
             kind = itsKind;
             parted = false;
-            beginnings = 0;
+            traced = 0;
             return spoken(itsKind, voice, x, 0);
-        }
-
-        /** What began becomes THE TRACE: not so where an ERROR is told, for that changes nothing. */
-        private void keepTrace() {
-            System.arraycopy(begun, 0, trace, 0, TRACE_BODIES);
-            traced = beginnings;
         }
 
         private int spoken(int ofKind, int voice, int x, int depth) {
             int at = 4 * ofKind + voice;
-            if (depth > DEEPEST || !isWithin(at, 0, BODIES.length - 1)) {
+            // A VOICE that is parted ends there: no BODY begins behind that, so none is in THE TRACE.
+            if (parted || depth > DEEPEST || !isWithin(at, 0, BODIES.length - 1)) {
                 return 0;
             }
             return worked(BODIES[at], x, depth + 1);
         }
 
         private int worked(int number, int x, int depth) {
-            if (beginnings < TRACE_BODIES) {
-                begun[beginnings] = number;
-                beginnings++;
+            if (traced < TRACE_BODIES) {
+                trace[traced] = number;
+                traced++;
             }
             switch (number) {
                 case 10: return x + k;

@@ -898,9 +898,11 @@ final class Model {
                 Mark mark = the(p);
                 within(q, 0, 3);
                 mark.s.begun.clear();
-                int answer = q == 0 ? mark.weighs(r) : q == 1 ? mark.says(r) : q == 2 ? mark.ties(r) : mark.parts(r);
-                trace = new ArrayList<>(mark.s.begun);
-                return answer;
+                try {
+                    return q == 0 ? mark.weighs(r) : q == 1 ? mark.says(r) : q == 2 ? mark.ties(r) : mark.parts(r);
+                } finally {
+                    trace = new ArrayList<>(mark.s.begun);
+                }
             }
             case 29:
                 need(p >= 0 && p < trace.size(), 2);

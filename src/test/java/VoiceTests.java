@@ -85,14 +85,35 @@ public final class VoiceTests {
         traced(6, 2, 12, 71, 11, 70);
         PictureBlock x = speaker(6);
         x.voice(2, 2, 0);
-        x.voice(2, 4, 0);
-        x.become(2, 2);
-        c.due("by 0", x.voice(2, 3, 0), Checks.PARTED);
-        c.due("an error changes nothing", x.count(9), 4);
-        c.due("an error changes nothing", x.body(1), 71);
+        c.due("a voice that isn't", x.voice(2, 4, 0), Checks.BEYOND);
+        c.due("a mark that isn't", x.voice(3, 0, 0), Checks.BEYOND);
+        c.due("no voice began", x.count(9), 4);
+        c.due("no voice began", x.body(1), 71);
         x.voice(2, 0, 0);
         c.due("the latest", x.count(9), 1);
-        c.due("the latest", x.body(0), 10);
+        c.due("the latest", x.body(0), 70);
+        tracedWhenParted(0, 13);
+        tracedWhenParted(1, 21, 13);
+        tracedWhenParted(2, 13);
+        tracedWhenParted(3, 13);
+        tracedWhenParted(4, 21, 13);
+        tracedWhenParted(5, 13);
+        tracedWhenParted(6, 13);
+    }
+
+    /** The mark's m is its number: so parts ends with BODY 13, and none begins behind that. */
+    private static void tracedWhenParted(int kind, int... bodies) {
+        PictureBlock x = speaker(kind);
+        x.voice(2, 2, 21);
+        x.become(2, 10 * kind + 2);
+        c.due(kind + " by 0", x.voice(2, 3, 21), Checks.PARTED);
+        c.due(kind + " by 0, count(9)", x.count(9), bodies.length);
+        for (int i = 0; i < bodies.length; i++) {
+            c.due(kind + " by 0, body(" + i + ")", x.body(i), bodies[i]);
+        }
+        c.due(kind + " by 0, behind the last", x.body(bodies.length), Checks.NONE);
+        x.voice(2, 0, 21);
+        c.due(kind + " by 0, the next", x.body(0), new int[] {10, 20, 10, 10, 50, 10, 70}[kind]);
     }
 
     private static void traced(int kind, int voice, int... bodies) {
