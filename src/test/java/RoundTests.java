@@ -5,7 +5,6 @@ public final class RoundTests {
     public static void main(String[] args) {
         rounds();
         loose();
-        dropped();
         round();
         seed();
         c.finish();
@@ -82,28 +81,6 @@ public final class RoundTests {
         c.due("without marks", none.loose(30), 0);
         c.due("no draw", none.count(10), 1);
         c.due("ROUND", none.count(2), 30);
-    }
-
-    private static void dropped() {
-        c.begin("promises 14, 15: DROPPED counts on, to 9999 at most");
-        PictureBlock x = three();
-        for (int i = 3; i < 8; i++) {
-            x.mark(0, -1, 0, i);
-        }
-        x.limit(0);
-        int had = 0;
-        boolean grows = true;
-        for (int i = 0; i < 480; i++) {
-            if (i % 240 == 0) {
-                x.round(0);
-            }
-            x.loose(30);
-            grows &= x.count(4) >= had && x.count(4) <= had + 30;
-            had = x.count(4);
-        }
-        c.holds("it grows by each round at most by one", grows);
-        c.due("DROPPED", had, 9999);
-        c.due("thought, too", x.then(60, 2), 9999);
     }
 
     private static void round() {
