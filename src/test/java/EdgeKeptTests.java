@@ -117,6 +117,7 @@ public final class EdgeKeptTests {
         x.pictures(4);
         x.limit(99);
         x.text(1);
+        x.feed(0x39393939L, 4);
         x.untell(0);
         x.loose(9);
         x.check();

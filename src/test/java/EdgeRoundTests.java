@@ -54,13 +54,13 @@ public final class EdgeRoundTests {
     private static void limits() {
         e.begin("terms 1", "A ROUND: if THE BLOCK HOLDS, and DOUBT of THE MOST DOUBTED is more than LIMIT, that one is ON no more");
         // 0, 0, 9 of weight 2: doubts are 6, 6, 12; 0, 1, 9: 20 / 3, 14 / 3, 34 / 3.
-        three(0, 0, 9);
+        EdgeStates.three(e, 0, 0, 9);
         e.does("limit", 12);
         e.due(3, "rounds", 1);
         e.does("limit", 11);
         e.due(2, "rounds", 1);
         e.due(3, "count", 5);
-        three(0, 1, 9);
+        EdgeStates.three(e, 0, 1, 9);
         e.does("limit", 12);
         e.due(3, "rounds", 60);
         e.does("limit", 11);
@@ -68,7 +68,7 @@ public final class EdgeRoundTests {
         e.due(3, "count", 5);
 
         e.begin("terms 1", "more than LIMIT: of 0 (the least), DOUBT of 0 isn't, and the least one above is");
-        three(5, 5, 5);
+        EdgeStates.three(e, 5, 5, 5);
         e.does("limit", 0);
         e.due(3, "rounds", 60);
         e.due(0, "count", 4);
@@ -77,32 +77,31 @@ public final class EdgeRoundTests {
         e.due(1, "count", 4);
 
         e.begin("terms 1", "more than LIMIT: of 99 (the most), DOUBT of 99 isn't, and the next is");
-        // Three say -30 and one v, of weight 3: it misses three quarters of 30 + v.
-        four(14);
+        EdgeStates.four(e, 14);
         e.due(4, "rounds", 60);
-        four(15);
+        EdgeStates.four(e, 15);
         e.due(3, "rounds", 1);
         e.due(7, "count", 5);
 
         e.begin("terms 1", "THE MOST DOUBTED: that of MARKS that are ON of which DOUBT is most; of several the least. DOUBT: .. without its sign");
-        three(-9, 9, 0);
+        EdgeStates.three(e, -9, 9, 0);
         e.does("limit", 0);
         e.due(0, "doubted");
         e.due(2, "rounds", 1);
         e.due(6, "count", 5);
-        three(9, 0, -9);
+        EdgeStates.three(e, 9, 0, -9);
         e.does("limit", 0);
         e.due(2, "rounds", 1);
         e.due(6, "count", 5);
         e.due(1, "rounds", 1);
         e.due(4, "count", 5);
-        three(0, -9, 0);
+        EdgeStates.three(e, 0, -9, 0);
         e.due(1, "doubted");
         e.does("on", 1, 0);
         e.due(0, "doubted");
 
         e.begin("terms 1", "A ROUND: .. ROUND is 1 more (if THE BLOCK doesn't HOLD, too)");
-        three(0, 0, 9);
+        EdgeStates.three(e, 0, 0, 9);
         e.does("limit", 0);
         e.does("pictures", 2);
         e.due(3, "rounds", 60);
@@ -112,24 +111,6 @@ public final class EdgeRoundTests {
         e.due(2, "rounds", 1);
         e.due(1, "count", 4);
         e.due(61, "count", 2);
-    }
-
-    private static void three(int a, int b, int c) {
-        e.anew();
-        e.does("pictures", 1);
-        e.does("mark", 0, -1, 0, a);
-        e.does("mark", 0, -1, 0, b);
-        e.does("mark", 0, -1, 0, c);
-    }
-
-    private static void four(int v) {
-        e.anew();
-        e.does("pictures", 1);
-        for (int i = 0; i < 4; i++) {
-            e.does("mark", 10, -1, 0, i < 3 ? -20 : v);
-        }
-        e.reads(1, "t-(t<0)*10");
-        e.does("limit", 99);
     }
 
     private static void dropped() {

@@ -27,10 +27,12 @@ public final class EdgeSheetTests {
         for (int sheet = 0; sheet <= 3; sheet += 3) {
             for (int bits = 8; bits <= 32; bits *= 2) {
                 e.due(1, "sheet", sheet, bits, 24);
+                e.due(1, "put", sheet, 0, 9);
                 e.due(1, "put", sheet, 23, 9);
                 e.due(BEYOND, "put", sheet, 24, 9);
                 // Anew, all are 0; of fewer, those behind are there no more.
                 e.due(1, "sheet", sheet, bits, 24);
+                e.due(1, "judge", sheet);
                 e.due(1, "move", sheet, 23, sheet, 0, 1);
                 e.due(1, "judge", sheet);
                 e.due(1, "sheet", sheet, bits, 1);

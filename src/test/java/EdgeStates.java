@@ -45,6 +45,29 @@ final class EdgeStates {
         e.does("round", 9999);
     }
 
+    /** Three of weight 2 that tell of one PICTURE. */
+    static void three(Edges e, int a, int b, int c) {
+        e.anew();
+        e.does("pictures", 1);
+        e.does("mark", 0, -1, 0, a);
+        e.does("mark", 0, -1, 0, b);
+        e.does("mark", 0, -1, 0, c);
+    }
+
+    /**
+     * Three say -30 and one v, of weight 3, by a LIMIT of 99: it misses three quarters of 30 + v, so its
+     * DOUBT is 99 by 14, and more than 101 by 15.
+     */
+    static void four(Edges e, int v) {
+        e.anew();
+        e.does("pictures", 1);
+        for (int i = 0; i < 4; i++) {
+            e.does("mark", 10, -1, 0, i < 3 ? -20 : v);
+        }
+        e.reads(1, "t-(t<0)*10");
+        e.does("limit", 99);
+    }
+
     private static void rest(Edges e) {
         e.does("limit", 7);
         e.does("round", 77);

@@ -256,7 +256,7 @@ public final class EdgeThoughtTests {
 
     private static void limitFor() {
         e.begin("terms 3", "LIMIT FOR n: the least LIMIT now by which those that are ON now all are n ROUNDS on.");
-        three(0, 1, 9);
+        EdgeStates.three(e, 0, 1, 9);
         // 34 / 3 is more than 11, and not more than 12.
         e.due(12, "limitFor", 1);
         e.does("limit", 12);
@@ -264,14 +264,14 @@ public final class EdgeThoughtTests {
         e.due(12, "limitFor", 1);
         e.does("limit", 11);
         e.due(2, "rounds", 1);
-        three(0, 0, 9);
+        EdgeStates.three(e, 0, 0, 9);
         e.due(12, "limitFor", 1);
-        three(0, 0, 0);
+        EdgeStates.three(e, 0, 0, 0);
         e.due(0, "limitFor", 40);
-        three(0, 0, 9);
+        EdgeStates.three(e, 0, 0, 9);
         e.does("on", 2, 0);
         e.due(0, "limitFor", 40);
-        three(0, 0, 9);
+        EdgeStates.three(e, 0, 0, 9);
         e.does("pictures", 2);
         e.due(0, "limitFor", 40);
 
@@ -293,13 +293,12 @@ public final class EdgeThoughtTests {
 
     private static void limitForNone() {
         e.begin("promise 26", "NONE: by none. (LIMIT 0 .. 99)");
-        // Three say -30 and one v, of weight 3: it misses three quarters of 30 + v.
-        four(14);
+        EdgeStates.four(e, 14);
         e.due(99, "limitFor", 1);
         e.due(0, "limitFor", 0);
-        four(13);
+        EdgeStates.four(e, 13);
         e.due(97, "limitFor", 1);
-        four(15);
+        EdgeStates.four(e, 15);
         e.refused(NONE, "limitFor", 1);
         e.refused(NONE, "limitFor", 40);
         e.due(0, "limitFor", 0);
@@ -310,25 +309,8 @@ public final class EdgeThoughtTests {
         e.refused(NONE, "limitFor", 1);
 
         e.begin("promise 26", "BEYOND .. NONE, in this order");
-        four(15);
+        EdgeStates.four(e, 15);
         e.beyond("limitFor", Edges.with(1), 0, -1, 41);
-    }
-
-    private static void three(int a, int b, int c) {
-        e.anew();
-        e.does("pictures", 1);
-        e.does("mark", 0, -1, 0, a);
-        e.does("mark", 0, -1, 0, b);
-        e.does("mark", 0, -1, 0, c);
-    }
-
-    private static void four(int v) {
-        e.anew();
-        e.does("pictures", 1);
-        for (int i = 0; i < 4; i++) {
-            e.does("mark", 10, -1, 0, i < 3 ? -20 : v);
-        }
-        e.reads(1, "t-(t<0)*10");
     }
 
     /** Two of weight 4 say -20, and one as much more as is told: it misses two thirds of that. */
