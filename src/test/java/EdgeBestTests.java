@@ -28,6 +28,16 @@ public final class EdgeBestTests {
             e.due(row[3], "place", 0, 1);
         }
 
+        // Three of weight 3, a way and one beside it: each misses a third of 1.
+        e.anew();
+        e.does("mark", 10, -1, 0, 0);
+        e.does("mark", 10, 0, 1, 0);
+        e.does("mark", 10, -1, 1, 1);
+        for (int picture = 0; picture <= 1; picture++) {
+            e.due(1 + picture, "place", picture, 0);
+            e.due(3, "place", picture, 1);
+        }
+
         e.begin("promise 18", "PLACE of a PICTURE: .. BEYOND.");
         for (int n = 1; n <= 4; n++) {
             e.anew();

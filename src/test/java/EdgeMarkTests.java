@@ -207,6 +207,9 @@ public final class EdgeMarkTests {
             e.does("become", 0, 30 + m);
             e.due(byM[m], "markIs", 0, 6);
         }
+        // It is 4 that a TEXT is given, not more that is held.
+        e.reads(0, "w-1");
+        e.due(3, "markIs", 0, 6);
 
         e.begin("terms 1", "AIR: as FLAT, if ROUND is even; else 1");
         e.does("mark", 40, -1, 0, 0);
@@ -215,6 +218,9 @@ public final class EdgeMarkTests {
             e.does("round", round);
             e.due(round % 2 == 0 ? 3 : 1, "markIs", 0, 6);
         }
+        // It is 1 that a TEXT is given, not less that is held.
+        e.reads(0, "w+1");
+        e.due(2, "markIs", 0, 6);
 
         e.begin("terms 1", "FAINT: as STAR, less 1 (held within 1 .. 4)");
         e.does("mark", 50, -1, 0, 0);
@@ -419,6 +425,15 @@ public final class EdgeMarkTests {
         EdgeStates.some(e);
         e.refused(Edges.STATE, "pictures", 2);
         e.due(3, "pictures", 3);
+        // Of all eight MARKS just the last one is at PICTURE 3.
+        e.anew();
+        e.does("pictures", 4);
+        for (int i = 0; i < 7; i++) {
+            e.does("mark", 0, -1, 2, 0);
+        }
+        e.does("mark", 0, 3, 0, 0);
+        e.refused(Edges.STATE, "pictures", 3);
+        e.due(4, "pictures", 4);
 
         e.begin("promise 8", "BEYOND .. STATE, in this order");
         EdgeStates.some(e);

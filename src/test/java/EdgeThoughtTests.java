@@ -167,6 +167,13 @@ public final class EdgeThoughtTests {
         e.does("become", 5, 10);
         e.due(32 + 2 + 4 + 8, "spine");
 
+        // The lightest that can be: one of WEIGHT 1.
+        e.anew();
+        e.does("pictures", 1);
+        e.reads(0, "1");
+        e.does("mark", 0, -1, 0, 0);
+        e.due(1, "spine");
+
         e.begin("terms 3", "of several the least");
         e.does("mark", 0, -1, 0, 0);
         e.does("mark", 0, -1, 1, 0);
